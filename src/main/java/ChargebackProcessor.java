@@ -499,31 +499,27 @@ public final class ChargebackProcessor {
         void readAll() {
             tokens.cut();
             for (int i = 0; i < tokens.count && isFine() && kind() != Tokens.END; i++) {
-                readStatement();
+                switch (kind()) {
+                    case Tokens.PARTIES:
+                        readParties();
+                        break;
+                    case Tokens.REASON:
+                        readReason();
+                        break;
+                    case Tokens.FEES:
+                        readFees();
+                        break;
+                    case Tokens.SCORE:
+                        readScore();
+                        break;
+                    case Tokens.LIMIT:
+                        readLimit();
+                        break;
+                    default:
+                        fail(SYNTAX_ERROR);
+                        break;
+                }
                 take(';');
-            }
-        }
-
-        private void readStatement() {
-            switch (kind()) {
-                case Tokens.PARTIES:
-                    readParties();
-                    break;
-                case Tokens.REASON:
-                    readReason();
-                    break;
-                case Tokens.FEES:
-                    readFees();
-                    break;
-                case Tokens.SCORE:
-                    readScore();
-                    break;
-                case Tokens.LIMIT:
-                    readLimit();
-                    break;
-                default:
-                    fail(SYNTAX_ERROR);
-                    break;
             }
         }
 
@@ -696,7 +692,7 @@ public final class ChargebackProcessor {
 
         /** Notes an error at the present token, unless an earlier one is noted. */
         private void fail(int code) {
-            if (isFine() && at < tokens.starts.length) {
+            if (errorCode == 0 && at < tokens.starts.length) {
                 errorCode = code;
                 errorOffset = tokens.starts[at];
             }

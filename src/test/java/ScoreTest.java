@@ -4,6 +4,7 @@ public final class ScoreTest {
         expressions();
         limitedResults();
         names();
+        laterPurchaseAndReason();
         withoutStatement();
         ownEvidence();
         wouldWin();
@@ -31,7 +32,9 @@ public final class ScoreTest {
         score("0/0", 0);
         score("(0-5)/0", 0);
         score("1+(2*(3+(4*(5+6))))", 95);
-        score("1+2*(1+2*(1+2*(1+2*(1+2*3))))".replace("(1+2*3)", "7"), 1 + 2 * (1 + 2 * (1 + 2 * (1 + 2 * 7))));
+        // As many operands wait as ever can.
+        score("1+2*(1+2*(1+2*(1+2*(1+2*3))))", 127);
+        score("9-8/(7-6/(5-4/(3-2/(1-9/8))))", 9 - 8 / (7 - 6 / (5 - 4 / 3)));
         score("0001", 1);
     }
 
@@ -64,6 +67,23 @@ public final class ScoreTest {
         Due.is("days until the filing", z.score(0), 100);
         z.pass(1);
         Due.is("days do not grow after it", z.score(0), 100);
+    }
+
+    /** Days from a purchase that is not of day 0, and a reason that is not the first. */
+    private static void laterPurchaseAndReason() {
+        ChargebackProcessor x = Due.with("score days*10+needed;reason 1 9 9 9 0 needs 0;reason 2 9 9 9 51 needs 3 4;");
+        x.purchase(0, 0, 10);
+        x.pass(7);
+        x.purchase(0, 0, 10);
+        x.pass(5);
+        x.file(1, 1, 4);
+        Due.is("score", x.score(0), 50);
+        Due.is("represent with what the other reason needs", x.represent(0, 1), 50);
+        Due.is("wouldWin with one of two", x.wouldWin(0, 8), false);
+        Due.is("wouldWin with both", x.wouldWin(0, 24), true);
+        Due.is("bestEvidence", x.bestEvidence(0), 25);
+        x.file(1, 0, 4);
+        Due.is("bestEvidence for the other reason", x.bestEvidence(1), 1);
     }
 
     private static void withoutStatement() {

@@ -121,6 +121,13 @@ public final class SetupTextTest {
         bad("Limit 1;", SYNTAX, 0);
         bad("limiT 1;", SYNTAX, 0);
         bad("limitlimit 1;", SYNTAX, 0);
+        bad("limitz 1;", SYNTAX, 0);
+        bad("alimit 1;", SYNTAX, 0);
+        bad("limit`1;", SYNTAX, 5);
+        bad("limit{1;", SYNTAX, 5);
+        bad("limit 1/;", SYNTAX, 7);
+        bad("limit 1:;", SYNTAX, 7);
+        bad("mimit 1;", SYNTAX, 0);
         bad("5;", SYNTAX, 0);
         bad("count;", SYNTAX, 0);
         bad("needs 1;", SYNTAX, 0);
@@ -276,12 +283,25 @@ public final class SetupTextTest {
         Due.is("checksum", x.checksum(), before);
         Due.is("undo, of pass and not of load,", x.undo(), 3);
         Due.is("today", x.today(), 0);
+        x.represent(0, 3);
+        x.escalate(0);
+        x.pass(2);
         Due.is("a good load", Due.load(x, "parties 1 3;"), 0);
         Due.is("all data are new: purchases", x.purchaseCount(), 0);
         Due.is("all data are new: disputes", x.disputeCount(), 0);
         Due.is("all data are new: today", x.today(), 0);
         Due.is("all data are new: checksum", x.checksum(), 0);
         Due.is("all data are new: network", x.networkAccount(), 0);
+        Due.is("another load", Due.load(x, "parties 4 4;reason 1 5 2 1 1;"), 1);
+        for (int i = 0; i < 4; i++) {
+            Due.is("all data are new: issuer " + i, x.issuerAccount(i), 0);
+            Due.is("all data are new: merchant " + i, x.merchantAccount(i), 0);
+        }
+        x.purchase(0, 0, 10);
+        Due.is("a dispute where another one was", x.file(0, 0, 5), 0);
+        Due.is("its state", x.state(0), ChargebackProcessor.FILED);
+        Due.is("its evidence", x.evidence(0), 0);
+        Due.is("its deadline", x.deadline(0), 2);
     }
 
     private static void longTexts() {
