@@ -4,15 +4,24 @@ import java.util.function.LongSupplier;
 
 /** What all tests share: comparing an answer with the one that is due, and loading a setup text. */
 final class Due {
+    static final String INDEX = "IndexOutOfBoundsException";
+    static final String ARGUMENT = "IllegalArgumentException";
+    static final String STATE = "IllegalStateException";
+
     private static int wrong = 0;
+    private static String sentence = "";
 
     private Due() {
     }
 
+    /** The document's words that the answers from here on are about: a wrong one names them. */
+    static void sentence(String words) {
+        sentence = words;
+    }
+
     static void is(String what, long got, long want) {
         if (got != want) {
-            wrong++;
-            System.out.println(what + " answered " + got + ", due is " + want);
+            fault(what, Long.toString(got), Long.toString(want));
         }
     }
 
@@ -22,22 +31,29 @@ final class Due {
 
     static void same(String what, String got, String want) {
         if (!got.equals(want)) {
-            wrong++;
-            System.out.println(what + " answered " + got + ", due is " + want);
+            fault(what, got, want);
+        }
+    }
+
+    private static void fault(String what, String got, String want) {
+        wrong++;
+        System.out.println(what + " answered " + got + ", due is " + want);
+        if (!sentence.isEmpty()) {
+            System.out.println("    the document: " + sentence);
         }
     }
 
     /** The exact class is looked at: what the machine throws is of a class below it. */
     static void indexThrow(String what, LongSupplier call) {
-        same(what, outcome(call), "IndexOutOfBoundsException");
+        same(what, outcome(call), INDEX);
     }
 
     static void argumentThrow(String what, LongSupplier call) {
-        same(what, outcome(call), "IllegalArgumentException");
+        same(what, outcome(call), ARGUMENT);
     }
 
     static void stateThrow(String what, LongSupplier call) {
-        same(what, outcome(call), "IllegalStateException");
+        same(what, outcome(call), STATE);
     }
 
     static String outcome(LongSupplier call) {

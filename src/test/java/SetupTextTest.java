@@ -1,9 +1,9 @@
 /** Promises 2 to 7 and 11: the input buffer, the setup text, its errors, and what it declares. */
 public final class SetupTextTest {
-    private static final int SYNTAX = ChargebackProcessor.SYNTAX_ERROR;
-    private static final int RANGE = ChargebackProcessor.OUT_OF_RANGE;
-    private static final int MANY = ChargebackProcessor.TOO_MANY;
-    private static final int DEEP = ChargebackProcessor.TOO_DEEP;
+    private static final int SYNTAX = Texts.SYNTAX;
+    private static final int RANGE = Texts.RANGE;
+    private static final int MANY = Texts.MANY;
+    private static final int DEEP = Texts.DEEP;
 
     public static void main(String[] args) {
         buffer();
@@ -63,28 +63,28 @@ public final class SetupTextTest {
     }
 
     private static void goodTexts() {
-        good("", 0);
-        good("   ", 0);
-        good("limit 0;", 0);
-        good("limit9999;", 0);
-        good("  limit  9999  ;  ", 0);
-        good("limit 0000000000000000000000000009999;", 0);
-        good("parties 1 1;", 0);
-        good("parties 4 4;", 0);
-        good("parties4 4;", 0);
-        good("fees 0 0;", 0);
-        good("fees 999 999;", 0);
-        good("reason 0 0 1 1 0;", 1);
-        good("reason 99 200 60 60 9999 needs 0 1 2 3 4 5 6 7;", 1);
-        good("reason99 200 60 60 9999needs7 6;", 1);
-        good("reason 1 1 1 1 1;reason 2 1 1 1 1 needs 3;reason 3 1 1 1 1 needs 3;", 3);
-        good("score 0;", 0);
-        good("score 9999;", 0);
-        good("score count;", 0);
-        good("score(count)*needed/amount+days-1;", 0);
-        good("score((((1))))+((((2))));", 0);
-        good("score ( ( ( ( 1 ) ) ) * ( 2 ) ) ;", 0);
-        good("score count;limit 1;fees 1 2;parties 2 3;reason 1 1 1 1 1;", 1);
+        Texts.good("", 0);
+        Texts.good("   ", 0);
+        Texts.good("limit 0;", 0);
+        Texts.good("limit9999;", 0);
+        Texts.good("  limit  9999  ;  ", 0);
+        Texts.good("limit 0000000000000000000000000009999;", 0);
+        Texts.good("parties 1 1;", 0);
+        Texts.good("parties 4 4;", 0);
+        Texts.good("parties4 4;", 0);
+        Texts.good("fees 0 0;", 0);
+        Texts.good("fees 999 999;", 0);
+        Texts.good("reason 0 0 1 1 0;", 1);
+        Texts.good("reason 99 200 60 60 9999 needs 0 1 2 3 4 5 6 7;", 1);
+        Texts.good("reason99 200 60 60 9999needs7 6;", 1);
+        Texts.good("reason 1 1 1 1 1;reason 2 1 1 1 1 needs 3;reason 3 1 1 1 1 needs 3;", 3);
+        Texts.good("score 0;", 0);
+        Texts.good("score 9999;", 0);
+        Texts.good("score count;", 0);
+        Texts.good("score(count)*needed/amount+days-1;", 0);
+        Texts.good("score((((1))))+((((2))));", 0);
+        Texts.good("score ( ( ( ( 1 ) ) ) * ( 2 ) ) ;", 0);
+        Texts.good("score count;limit 1;fees 1 2;parties 2 3;reason 1 1 1 1 1;", 1);
     }
 
     private static void declared() {
@@ -110,128 +110,128 @@ public final class SetupTextTest {
     }
 
     private static void syntaxErrors() {
-        bad(";", SYNTAX, 0);
-        bad("limit 1;;", SYNTAX, 8);
-        bad("limit 1 2;", SYNTAX, 8);
-        bad("limit;", SYNTAX, 5);
-        bad("limit -1;", SYNTAX, 6);
-        bad("limit count;", SYNTAX, 6);
-        bad("limits 1;", SYNTAX, 0);
-        bad("limi 1;", SYNTAX, 0);
-        bad("Limit 1;", SYNTAX, 0);
-        bad("limiT 1;", SYNTAX, 0);
-        bad("limitlimit 1;", SYNTAX, 0);
-        bad("limitz 1;", SYNTAX, 0);
-        bad("alimit 1;", SYNTAX, 0);
-        bad("limit`1;", SYNTAX, 5);
-        bad("limit{1;", SYNTAX, 5);
-        bad("limit 1/;", SYNTAX, 7);
-        bad("limit 1:;", SYNTAX, 7);
-        bad("mimit 1;", SYNTAX, 0);
-        bad("5;", SYNTAX, 0);
-        bad("count;", SYNTAX, 0);
-        bad("needs 1;", SYNTAX, 0);
-        bad("limit\t1;", SYNTAX, 5);
-        bad("limit 1;\n", SYNTAX, 8);
-        bad("limit 1;\0", SYNTAX, 8);
-        bad("limit 1\u00ff;", SYNTAX, 7);
-        bad("limit 1\u00bb;", SYNTAX, 7);
-        bad("parties 1;", SYNTAX, 9);
-        bad("parties 1 2 3;", SYNTAX, 12);
-        bad("parties 1,2;", SYNTAX, 9);
-        bad("fees 1;", SYNTAX, 6);
-        bad("fees 1 2 3;", SYNTAX, 9);
-        bad("reason 1 2 3 4;", SYNTAX, 14);
-        bad("reason 1 2 3 4 5 6;", SYNTAX, 17);
-        bad("reason 1 2 3 4 needs 1;", SYNTAX, 15);
-        bad("reason 1 2 3 4 5 needs;", SYNTAX, 22);
-        bad("reason 1 2 3 4 5 need 1;", SYNTAX, 17);
-        bad("reason 1 2 3 4 5 needed 1;", SYNTAX, 17);
-        bad("reason 1 2 3 4 5 needs 1 needs 2;", SYNTAX, 25);
-        bad("reason 1 2 3 4 5 needs 1 count;", SYNTAX, 25);
-        bad("score;", SYNTAX, 5);
-        bad("score 1 2;", SYNTAX, 8);
-        bad("score +1;", SYNTAX, 6);
-        bad("score 1+;", SYNTAX, 8);
-        bad("score 1*-1;", SYNTAX, 8);
-        bad("score 1%2;", SYNTAX, 7);
-        bad("score 1(2);", SYNTAX, 7);
-        bad("score ();", SYNTAX, 7);
-        bad("score (1;", SYNTAX, 8);
-        bad("score 1);", SYNTAX, 7);
-        bad("score (1+);", SYNTAX, 9);
-        bad("score 1 count;", SYNTAX, 8);
-        bad("score counts;", SYNTAX, 6);
-        bad("score day;", SYNTAX, 6);
-        bad("score limit;", SYNTAX, 6);
-        bad("scorecount;", SYNTAX, 0);
+        Texts.bad(";", SYNTAX, 0);
+        Texts.bad("limit 1;;", SYNTAX, 8);
+        Texts.bad("limit 1 2;", SYNTAX, 8);
+        Texts.bad("limit;", SYNTAX, 5);
+        Texts.bad("limit -1;", SYNTAX, 6);
+        Texts.bad("limit count;", SYNTAX, 6);
+        Texts.bad("limits 1;", SYNTAX, 0);
+        Texts.bad("limi 1;", SYNTAX, 0);
+        Texts.bad("Limit 1;", SYNTAX, 0);
+        Texts.bad("limiT 1;", SYNTAX, 0);
+        Texts.bad("limitlimit 1;", SYNTAX, 0);
+        Texts.bad("limitz 1;", SYNTAX, 0);
+        Texts.bad("alimit 1;", SYNTAX, 0);
+        Texts.bad("limit`1;", SYNTAX, 5);
+        Texts.bad("limit{1;", SYNTAX, 5);
+        Texts.bad("limit 1/;", SYNTAX, 7);
+        Texts.bad("limit 1:;", SYNTAX, 7);
+        Texts.bad("mimit 1;", SYNTAX, 0);
+        Texts.bad("5;", SYNTAX, 0);
+        Texts.bad("count;", SYNTAX, 0);
+        Texts.bad("needs 1;", SYNTAX, 0);
+        Texts.bad("limit\t1;", SYNTAX, 5);
+        Texts.bad("limit 1;\n", SYNTAX, 8);
+        Texts.bad("limit 1;\0", SYNTAX, 8);
+        Texts.bad("limit 1\u00ff;", SYNTAX, 7);
+        Texts.bad("limit 1\u00bb;", SYNTAX, 7);
+        Texts.bad("parties 1;", SYNTAX, 9);
+        Texts.bad("parties 1 2 3;", SYNTAX, 12);
+        Texts.bad("parties 1,2;", SYNTAX, 9);
+        Texts.bad("fees 1;", SYNTAX, 6);
+        Texts.bad("fees 1 2 3;", SYNTAX, 9);
+        Texts.bad("reason 1 2 3 4;", SYNTAX, 14);
+        Texts.bad("reason 1 2 3 4 5 6;", SYNTAX, 17);
+        Texts.bad("reason 1 2 3 4 needs 1;", SYNTAX, 15);
+        Texts.bad("reason 1 2 3 4 5 needs;", SYNTAX, 22);
+        Texts.bad("reason 1 2 3 4 5 need 1;", SYNTAX, 17);
+        Texts.bad("reason 1 2 3 4 5 needed 1;", SYNTAX, 17);
+        Texts.bad("reason 1 2 3 4 5 needs 1 needs 2;", SYNTAX, 25);
+        Texts.bad("reason 1 2 3 4 5 needs 1 count;", SYNTAX, 25);
+        Texts.bad("score;", SYNTAX, 5);
+        Texts.bad("score 1 2;", SYNTAX, 8);
+        Texts.bad("score +1;", SYNTAX, 6);
+        Texts.bad("score 1+;", SYNTAX, 8);
+        Texts.bad("score 1*-1;", SYNTAX, 8);
+        Texts.bad("score 1%2;", SYNTAX, 7);
+        Texts.bad("score 1(2);", SYNTAX, 7);
+        Texts.bad("score ();", SYNTAX, 7);
+        Texts.bad("score (1;", SYNTAX, 8);
+        Texts.bad("score 1);", SYNTAX, 7);
+        Texts.bad("score (1+);", SYNTAX, 9);
+        Texts.bad("score 1 count;", SYNTAX, 8);
+        Texts.bad("score counts;", SYNTAX, 6);
+        Texts.bad("score day;", SYNTAX, 6);
+        Texts.bad("score limit;", SYNTAX, 6);
+        Texts.bad("scorecount;", SYNTAX, 0);
     }
 
     private static void textsThatEndTooEarly() {
-        bad("limit", SYNTAX, 5);
-        bad("limit   ", SYNTAX, 8);
-        bad("limit 1", SYNTAX, 7);
-        bad("limit 1  ", SYNTAX, 9);
-        bad("parties 1", SYNTAX, 9);
-        bad("fees 1 1", SYNTAX, 8);
-        bad("reason 1 1 1 1", SYNTAX, 14);
-        bad("reason 1 1 1 1 1", SYNTAX, 16);
-        bad("reason 1 1 1 1 1 needs", SYNTAX, 22);
-        bad("reason 1 1 1 1 1 needs 1", SYNTAX, 24);
-        bad("score", SYNTAX, 5);
-        bad("score (", SYNTAX, 7);
-        bad("score (1", SYNTAX, 8);
-        bad("score (1) ", SYNTAX, 10);
-        bad("score 1+", SYNTAX, 8);
-        bad("lim", SYNTAX, 0);
+        Texts.bad("limit", SYNTAX, 5);
+        Texts.bad("limit   ", SYNTAX, 8);
+        Texts.bad("limit 1", SYNTAX, 7);
+        Texts.bad("limit 1  ", SYNTAX, 9);
+        Texts.bad("parties 1", SYNTAX, 9);
+        Texts.bad("fees 1 1", SYNTAX, 8);
+        Texts.bad("reason 1 1 1 1", SYNTAX, 14);
+        Texts.bad("reason 1 1 1 1 1", SYNTAX, 16);
+        Texts.bad("reason 1 1 1 1 1 needs", SYNTAX, 22);
+        Texts.bad("reason 1 1 1 1 1 needs 1", SYNTAX, 24);
+        Texts.bad("score", SYNTAX, 5);
+        Texts.bad("score (", SYNTAX, 7);
+        Texts.bad("score (1", SYNTAX, 8);
+        Texts.bad("score (1) ", SYNTAX, 10);
+        Texts.bad("score 1+", SYNTAX, 8);
+        Texts.bad("lim", SYNTAX, 0);
     }
 
     private static void secondStatements() {
-        bad("limit 1;limit 1;", SYNTAX, 8);
-        bad("limit 1; limit", SYNTAX, 9);
-        bad("fees 1 1;limit 1;fees 1 1;", SYNTAX, 17);
-        bad("parties 1 1;parties 1 1;", SYNTAX, 12);
-        bad("score 1;score 1;", SYNTAX, 8);
-        bad("fees 0 0;fees1", SYNTAX, 9);
+        Texts.bad("limit 1;limit 1;", SYNTAX, 8);
+        Texts.bad("limit 1; limit", SYNTAX, 9);
+        Texts.bad("fees 1 1;limit 1;fees 1 1;", SYNTAX, 17);
+        Texts.bad("parties 1 1;parties 1 1;", SYNTAX, 12);
+        Texts.bad("score 1;score 1;", SYNTAX, 8);
+        Texts.bad("fees 0 0;fees1", SYNTAX, 9);
     }
 
     private static void ranges() {
-        bad("parties 0 1;", RANGE, 8);
-        bad("parties 5 1;", RANGE, 8);
-        bad("parties 1 0;", RANGE, 10);
-        bad("parties 1 05;", RANGE, 10);
-        bad("reason 100 1 1 1 1;", RANGE, 7);
-        bad("reason 1 201 1 1 1;", RANGE, 9);
-        bad("reason 1 1 0 1 1;", RANGE, 11);
-        bad("reason 1 1 61 1 1;", RANGE, 11);
-        bad("reason 1 1 1 0 1;", RANGE, 13);
-        bad("reason 1 1 1 61 1;", RANGE, 13);
-        bad("reason 1 1 1 1 10000;", RANGE, 15);
-        bad("reason 1 1 1 1 1 needs 8;", RANGE, 23);
-        bad("reason 1 1 1 1 1 needs 1 8;", RANGE, 25);
-        bad("reason 1 1 1 1 1 needs 1 33;", RANGE, 25);
-        bad("fees 1000 1;", RANGE, 5);
-        bad("fees 1 1000;", RANGE, 7);
-        bad("limit 10000;", RANGE, 6);
-        bad("limit 4294967296;", RANGE, 6);
-        bad("limit 18446744073709551616;", RANGE, 6);
-        bad("limit 100000000000000000000000000000000000000000000;", RANGE, 6);
-        bad("score 10000;", RANGE, 6);
-        bad("score 1+10000;", RANGE, 8);
-        bad("score 1*(10000);", RANGE, 9);
+        Texts.bad("parties 0 1;", RANGE, 8);
+        Texts.bad("parties 5 1;", RANGE, 8);
+        Texts.bad("parties 1 0;", RANGE, 10);
+        Texts.bad("parties 1 05;", RANGE, 10);
+        Texts.bad("reason 100 1 1 1 1;", RANGE, 7);
+        Texts.bad("reason 1 201 1 1 1;", RANGE, 9);
+        Texts.bad("reason 1 1 0 1 1;", RANGE, 11);
+        Texts.bad("reason 1 1 61 1 1;", RANGE, 11);
+        Texts.bad("reason 1 1 1 0 1;", RANGE, 13);
+        Texts.bad("reason 1 1 1 61 1;", RANGE, 13);
+        Texts.bad("reason 1 1 1 1 10000;", RANGE, 15);
+        Texts.bad("reason 1 1 1 1 1 needs 8;", RANGE, 23);
+        Texts.bad("reason 1 1 1 1 1 needs 1 8;", RANGE, 25);
+        Texts.bad("reason 1 1 1 1 1 needs 1 33;", RANGE, 25);
+        Texts.bad("fees 1000 1;", RANGE, 5);
+        Texts.bad("fees 1 1000;", RANGE, 7);
+        Texts.bad("limit 10000;", RANGE, 6);
+        Texts.bad("limit 4294967296;", RANGE, 6);
+        Texts.bad("limit 18446744073709551616;", RANGE, 6);
+        Texts.bad("limit 100000000000000000000000000000000000000000000;", RANGE, 6);
+        Texts.bad("score 10000;", RANGE, 6);
+        Texts.bad("score 1+10000;", RANGE, 8);
+        Texts.bad("score 1*(10000);", RANGE, 9);
     }
 
     private static void reasonsTwice() {
-        bad("reason 5 1 1 1 1;reason 5 1 1 1 1;", RANGE, 24);
-        bad("reason 5 1 1 1 1;reason 05 1 1 1 1;", RANGE, 24);
-        bad("reason 5 1 1 1 1;reason 6 1 1 1 1;reason 5", RANGE, 41);
-        bad("reason 1 1 1 1 1 needs 0 0;", RANGE, 25);
-        bad("reason 1 1 1 1 1 needs 7 07;", RANGE, 25);
-        bad("reason 1 1 1 1 1 needs 0 1 2 3 4 5 6 7 0;", RANGE, 39);
-        bad("reason 1 1 1 1 1 needs 0 1 2 3 4 5 6 7 8;", RANGE, 39);
+        Texts.bad("reason 5 1 1 1 1;reason 5 1 1 1 1;", RANGE, 24);
+        Texts.bad("reason 5 1 1 1 1;reason 05 1 1 1 1;", RANGE, 24);
+        Texts.bad("reason 5 1 1 1 1;reason 6 1 1 1 1;reason 5", RANGE, 41);
+        Texts.bad("reason 1 1 1 1 1 needs 0 0;", RANGE, 25);
+        Texts.bad("reason 1 1 1 1 1 needs 7 07;", RANGE, 25);
+        Texts.bad("reason 1 1 1 1 1 needs 0 1 2 3 4 5 6 7 0;", RANGE, 39);
+        Texts.bad("reason 1 1 1 1 1 needs 0 1 2 3 4 5 6 7 8;", RANGE, 39);
         // Nothing is declared at first: code 0 is free although the rows hold 0.
-        good("reason 0 1 1 1 1;", 1);
-        good("reason 1 1 1 1 1;reason 0 1 1 1 1;", 2);
+        Texts.good("reason 0 1 1 1 1;", 1);
+        Texts.good("reason 1 1 1 1 1;reason 0 1 1 1 1;", 2);
     }
 
     private static void tooManyReasons() {
@@ -239,33 +239,33 @@ public final class SetupTextTest {
         for (int i = 0; i < 8; i++) {
             text.append("reason ").append(i).append(" 1 1 1 1;");
         }
-        good(text.toString(), 8);
-        bad(text + "reason 8 1 1 1 1;", MANY, text.length());
-        bad(text + " reason", MANY, text.length() + 1);
-        bad(text + "reasons", SYNTAX, text.length());
-        bad(text + "limit 10000;reason 8 1 1 1 1;", RANGE, text.length() + 6);
+        Texts.good(text.toString(), 8);
+        Texts.bad(text + "reason 8 1 1 1 1;", MANY, text.length());
+        Texts.bad(text + " reason", MANY, text.length() + 1);
+        Texts.bad(text + "reasons", SYNTAX, text.length());
+        Texts.bad(text + "limit 10000;reason 8 1 1 1 1;", RANGE, text.length() + 6);
         ChargebackProcessor x = Due.with(text.toString());
         Due.is("the last code", x.reasonOf(7), 7);
     }
 
     private static void tooDeep() {
-        bad("score (((((1)))));", DEEP, 10);
-        bad("score (((((", DEEP, 10);
-        bad("score ((((((1))))));", DEEP, 10);
-        bad("score ((((1)(", SYNTAX, 12);
-        bad("score ((((1+(2)))));", DEEP, 12);
-        bad("score ((((1*(", DEEP, 12);
-        good("score ((((1)+1)+1)+1)*((((1))));", 0);
+        Texts.bad("score (((((1)))));", DEEP, 10);
+        Texts.bad("score (((((", DEEP, 10);
+        Texts.bad("score ((((((1))))));", DEEP, 10);
+        Texts.bad("score ((((1)(", SYNTAX, 12);
+        Texts.bad("score ((((1+(2)))));", DEEP, 12);
+        Texts.bad("score ((((1*(", DEEP, 12);
+        Texts.good("score ((((1)+1)+1)+1)*((((1))));", 0);
     }
 
     private static void firstErrorCounts() {
-        bad("parties 9 x", RANGE, 8);
-        bad("parties x 9", SYNTAX, 8);
-        bad("limit 10000 %", RANGE, 6);
-        bad("limit 1;% limit 1;", SYNTAX, 8);
-        bad("reason 1 1 1 1 1;reason 1 999 0 0 0", RANGE, 24);
-        bad("score 1;limit 1;score (((((1", SYNTAX, 16);
-        bad("limit 5 99999;", SYNTAX, 8);
+        Texts.bad("parties 9 x", RANGE, 8);
+        Texts.bad("parties x 9", SYNTAX, 8);
+        Texts.bad("limit 10000 %", RANGE, 6);
+        Texts.bad("limit 1;% limit 1;", SYNTAX, 8);
+        Texts.bad("reason 1 1 1 1 1;reason 1 999 0 0 0", RANGE, 24);
+        Texts.bad("score 1;limit 1;score (((((1", SYNTAX, 16);
+        Texts.bad("limit 5 99999;", SYNTAX, 8);
     }
 
     private static void errorsChangeNothing() {
@@ -314,24 +314,9 @@ public final class SetupTextTest {
         x.purchase(0, 0, 1);
         x.file(0, 0, 1);
         Due.is("a long sum", x.score(0), (sum.length() - "reason 1 1 1 1 1;score ".length() - 1) / 2);
-        bad(" ".repeat(899) + "(", SYNTAX, 899);
-        bad("a".repeat(900), SYNTAX, 0);
-        good("limit " + "0".repeat(893) + ";", 0);
-        bad("limit " + "9".repeat(894), RANGE, 6);
-    }
-
-    private static void good(String text, int reasons) {
-        ChargebackProcessor x = new ChargebackProcessor();
-        Due.is("load of \"" + text + "\"", Due.load(x, text), reasons);
-        Due.is("the offset in \"" + text + "\"", x.errorOffset(), -1);
-        Due.is("the reasons of \"" + text + "\"", x.reasonCount(), reasons);
-    }
-
-
-    private static void bad(String text, int code, int offset) {
-        ChargebackProcessor x = new ChargebackProcessor();
-        Due.is("load of \"" + text + "\"", Due.load(x, text), code);
-        Due.is("the offset in \"" + text + "\"", x.errorOffset(), offset);
-        Due.is("the change of \"" + text + "\"", x.undo(), -1);
+        Texts.bad(" ".repeat(899) + "(", SYNTAX, 899);
+        Texts.bad("a".repeat(900), SYNTAX, 0);
+        Texts.good("limit " + "0".repeat(893) + ";", 0);
+        Texts.bad("limit " + "9".repeat(894), RANGE, 6);
     }
 }
