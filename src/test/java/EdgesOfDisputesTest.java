@@ -24,6 +24,7 @@ public final class EdgesOfDisputesTest {
         greatestAmount();
         latestDay();
         moneyAtFiling();
+        moneyOfTheParties();
         moneyOnTheWay();
         moneyAtTheEnd();
         openingFee();
@@ -218,6 +219,34 @@ public final class EdgesOfDisputesTest {
     private static void moneyAtFiling() {
         Due.sentence("The disputed money: when a dispute is filed, the merchant pays its amount to the issuer, and the opening fee to the network.");
         money(at(FILED), -1000 + 600, 1000 - 600 - 15, 15);
+    }
+
+    /** Every issuer with every merchant: no other account moves. */
+    private static void moneyOfTheParties() {
+        Due.sentence("A dispute has a purchase, a reason, an amount, a day on which it was filed,");
+        for (int issuer = 0; issuer < 4; issuer++) {
+            for (int merchant = 0; merchant < 4; merchant++) {
+                ChargebackProcessor x = Due.with("parties 4 4;" + SETUP);
+                x.purchase((issuer + 1) % 4, (merchant + 2) % 4, 7);
+                x.purchase(issuer, merchant, 1000);
+                x.file(1, 0, 600);
+                parties(x, issuer, -1000 + 600, merchant, 1000 - 600 - 15);
+                x.represent(0, 1);
+                parties(x, issuer, -1000, merchant, 1000 - 15);
+                x.escalate(0);
+                parties(x, issuer, -1000 + 600, merchant, 1000 - 600 - 15);
+                x.contest(0, 2);
+                x.pass(11);
+                parties(x, issuer, -1000 - 15 - 50, merchant, 1000);
+            }
+        }
+    }
+
+    private static void parties(ChargebackProcessor x, int issuer, int paid, int merchant, int got) {
+        for (int i = 0; i < 4; i++) {
+            Due.is("the account of issuer " + i, x.issuerAccount(i), i == issuer ? paid : i == (issuer + 1) % 4 ? -7 : 0);
+            Due.is("the account of merchant " + i, x.merchantAccount(i), i == merchant ? got : i == (merchant + 2) % 4 ? 7 : 0);
+        }
     }
 
     private static void moneyOnTheWay() {

@@ -263,7 +263,7 @@ public final class EdgesOfErrorsTest {
         for (int i = 0; i < 20; i++) {
             x.file(i, 0, 900);
         }
-        x.represent(3, 255);
+        x.represent(0, 255);
         x.pass(100);
         Due.is("load", Due.load(x, "parties 4 4;reason 1 60 9 9 2;"), 1);
         ChargebackProcessor y = Due.with("parties 4 4;reason 1 60 9 9 2;");
@@ -271,6 +271,7 @@ public final class EdgesOfErrorsTest {
         Due.same("all data", Twins.seen(x), Twins.seen(y));
         Due.is("a first purchase", x.purchase(3, 3, 50), 0);
         Due.is("a first dispute", x.file(0, 0, 20), 0);
+        Due.is("its set is empty", x.evidence(0), 0);
         y.purchase(3, 3, 50);
         y.file(0, 0, 20);
         Due.same("all data then", Twins.seen(x), Twins.seen(y));

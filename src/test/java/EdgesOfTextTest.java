@@ -164,6 +164,13 @@ public final class EdgesOfTextTest {
         Texts.bad("limi_t 1;", SYNTAX, 0);
         Texts.bad("alimit 1;", SYNTAX, 0);
         Texts.bad("limitz 1;", SYNTAX, 0);
+        // Words that differ from a right one in a single letter, at any place.
+        for (String word : new String[] {"parties", "reason", "fees", "score", "limit"}) {
+            for (int i = 0; i < word.length(); i++) {
+                Texts.bad(word.substring(0, i) + "x" + word.substring(i + 1) + " 1 1 1 1 1;", SYNTAX, 0);
+                Texts.bad(word.substring(0, i) + word.substring(i + 1) + " 1 1 1 1 1;", SYNTAX, 0);
+            }
+        }
         Texts.bad("limit`1;", SYNTAX, 5);
         Texts.bad("limit{1;", SYNTAX, 5);
     }
@@ -323,6 +330,9 @@ public final class EdgesOfTextTest {
         Texts.bad("score (((((7)))));", DEEP, 10);
         Texts.bad("score ((((((7))))));", DEEP, 10);
         score("((((1))))+((((2))))*((((3))))", 7);
+        // As many operands wait at each depth as ever can.
+        score("1+2*(1+2*(1+2*(1+2*(1+2*3))))", 127);
+        score("9-8/(7-6/(5-4/(3-2/(2-9/8))))", 9 - 8 / (7 - 6 / (5 - 4 / (3 - 2))));
         score("((((1)+1)+1)+1)", 4);
         score("(1+(1+(1+(1+1))))", 5);
         Texts.bad("score (1+(1+(1+(1+(1)))));", DEEP, 18);
