@@ -153,17 +153,28 @@ public final class EdgesOfChangesTest {
 
     private static void latestFirst() {
         Due.sentence("the latest one first.");
-        ChargebackProcessor x = Due.with(SETUP);
-        List<String> states = new ArrayList<>();
         List<ToLongFunction<ChargebackProcessor>> changes = List.of(y -> y.purchase(1, 0, 700), y -> y.file(0, 0, 100), y -> y.represent(0, 1),
                 y -> y.pass(3), y -> y.escalate(0), y -> y.contest(0, 4), y -> y.purchase(0, 1, 30), y -> y.pass(11));
+        for (int kept = 7; kept >= 0; kept--) {
+            ChargebackProcessor x = Due.with(SETUP);
+            ChargebackProcessor y = Due.with(SETUP);
+            for (int i = 0; i < 8; i++) {
+                changes.get(i).applyAsLong(x);
+                if (i < kept) {
+                    changes.get(i).applyAsLong(y);
+                }
+            }
+            for (int left = 7; left >= kept; left--) {
+                Due.is("undo of change " + left, x.undo(), left);
+            }
+            Due.same("what was before change " + kept, Twins.seen(x), Twins.seen(y));
+        }
+        ChargebackProcessor x = Due.with(SETUP);
         for (ToLongFunction<ChargebackProcessor> change : changes) {
-            states.add(Twins.seen(x));
             change.applyAsLong(x);
         }
-        for (int i = 7; i >= 0; i--) {
-            Due.is("undo of change " + i, x.undo(), i);
-            Due.same("what was before change " + i, Twins.seen(x), states.get(i));
+        for (int i = 0; i < 8; i++) {
+            x.undo();
         }
         Due.is("load was pushed out", x.undo(), -1);
         Due.is("issuerCount", x.issuerCount(), 2);

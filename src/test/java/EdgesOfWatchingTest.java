@@ -299,9 +299,8 @@ public final class EdgesOfWatchingTest {
         Due.sentence("Predicts an account:");
         for (int round = 0; round < 6; round++) {
             ChargebackProcessor x = mixed(round);
-            String before = Twins.seen(x);
             int[] due = {x.settled(0), x.settled(1), x.settled(2)};
-            Due.same("nothing changes", Twins.seen(x), before);
+            Due.same("nothing changes", Twins.seen(x), Twins.seen(mixed(round)));
             for (int i = 0; x.nextDeadline() >= 0 && i < 10; i++) {
                 x.pass(50);
             }

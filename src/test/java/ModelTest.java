@@ -40,6 +40,10 @@ public final class ModelTest {
     }
 
     private void call(String what, LongSupplier own, LongSupplier due) {
+        // What an object answers after its 512th call is free.
+        if (calls == CALLS) {
+            return;
+        }
         calls++;
         Due.same("run " + seed + ", call " + calls + ", " + what, Due.outcome(own), Due.outcome(due));
     }
@@ -52,13 +56,13 @@ public final class ModelTest {
         int d = dispute();
         int set = random.nextInt(12) == 0 ? random.nextInt(600) - 200 : 1 << random.nextInt(8) | 1 << random.nextInt(8);
         if (which == 0) {
-            int issuer = party(x.issuerCount());
-            int merchant = party(x.merchantCount());
+            int issuer = party(model.count(0));
+            int merchant = party(model.count(1));
             int amount = amount();
             call("purchase(" + issuer + ", " + merchant + ", " + amount + ")", () -> x.purchase(issuer, merchant, amount), () -> model.purchase(issuer, merchant, amount));
         } else if (which == 1) {
-            int purchase = party(x.purchaseCount());
-            int reason = party(x.reasonCount());
+            int purchase = party(model.count(3));
+            int reason = party(model.count(2));
             int amount = random.nextInt(3) == 0 ? amount() : 1 + random.nextInt(300);
             call("file(" + purchase + ", " + reason + ", " + amount + ")", () -> x.file(purchase, reason, amount), () -> model.file(purchase, reason, amount));
         } else if (which == 2) {
@@ -84,7 +88,7 @@ public final class ModelTest {
 
     private void ask(int which) {
         int d = dispute();
-        int m = party(x.merchantCount());
+        int m = party(model.count(1));
         int set = random.nextInt(270) - 7;
         switch (which) {
             case 0 -> call("errorOffset()", x::errorOffset, model::errorOffset);
@@ -222,7 +226,7 @@ public final class ModelTest {
     }
 
     private int dispute() {
-        return party(x.disputeCount());
+        return party(model.count(4));
     }
 
     private int party(int count) {
