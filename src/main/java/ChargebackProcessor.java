@@ -611,22 +611,18 @@ public final class ChargebackProcessor {
                     takeName(Formula.DAYS);
                     break;
                 case '(':
-                    readParentheses(depth);
+                    if (depth >= MAX_DEPTH) {
+                        fail(TOO_DEEP);
+                        break;
+                    }
+                    step();
+                    readSum(depth + 1);
+                    take(')');
                     break;
                 default:
                     fail(SYNTAX_ERROR);
                     break;
             }
-        }
-
-        private void readParentheses(int depth) {
-            if (depth >= MAX_DEPTH) {
-                fail(TOO_DEEP);
-                return;
-            }
-            step();
-            readSum(depth + 1);
-            take(')');
         }
 
         private void takeName(int item) {
