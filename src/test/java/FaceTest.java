@@ -6,14 +6,16 @@ import java.util.TreeSet;
 
 /** The public face is the document's, and nothing else can be seen from outside. */
 public final class FaceTest {
-    private static final String METHODS = "append(int,int,int,int,int):int load(int):int errorOffset():int"
+    // Behind ! stand the declared exceptions in their order: I is IndexOutOfBoundsException, A is
+    // IllegalArgumentException, S is IllegalStateException.
+    private static final String METHODS = "append(int,int,int,int,int):int load(int):int!A errorOffset():int"
             + " issuerCount():int merchantCount():int reasonCount():int purchaseCount():int disputeCount():int"
-            + " today():int reasonOf(int):int issuerAccount(int):int merchantAccount(int):int networkAccount():int"
-            + " disputed(int):int state(int):int deadline(int):int evidence(int):int isWithMerchant(int):boolean"
-            + " score(int):int wouldWin(int,int):boolean bestEvidence(int):int nextDeadline():int rate(int):int"
-            + " isWatched(int):boolean exposure(int):int settled(int):int purchase(int,int,int):int"
-            + " file(int,int,int):int represent(int,int):int escalate(int):int contest(int,int):int"
-            + " accept(int):int pass(int):int undo():int checksum():long";
+            + " today():int reasonOf(int):int issuerAccount(int):int!I merchantAccount(int):int!I networkAccount():int"
+            + " disputed(int):int!I state(int):int!I deadline(int):int!I evidence(int):int!I isWithMerchant(int):boolean!I"
+            + " score(int):int!I wouldWin(int,int):boolean!IA bestEvidence(int):int!I nextDeadline():int rate(int):int!I"
+            + " isWatched(int):boolean!I exposure(int):int!I settled(int):int!I purchase(int,int,int):int!IAS"
+            + " file(int,int,int):int!IAS represent(int,int):int!IAS escalate(int):int!IS contest(int,int):int!IAS"
+            + " accept(int):int!IS pass(int):int!AS undo():int checksum():long";
     private static final String CONSTANTS = "SYNTAX_ERROR=-2 OUT_OF_RANGE=-3 TOO_MANY=-4 TOO_DEEP=-5 FILED=0"
             + " REPRESENTED=1 ESCALATED=2 ARBITRATION=3 ISSUER_WON=4 MERCHANT_WON=5";
 
@@ -45,10 +47,23 @@ public final class FaceTest {
                 for (Class<?> type : method.getParameterTypes()) {
                     parameters.append(parameters.length() == 0 ? "" : ",").append(type.getName());
                 }
-                all.append(method.getName()).append('(').append(parameters).append("):").append(method.getReturnType().getName()).append(' ');
+                all.append(method.getName()).append('(').append(parameters).append("):").append(method.getReturnType().getName())
+                        .append(exceptions(method)).append(' ');
+                Due.is(method + " is public and not static", method.getModifiers(), Modifier.PUBLIC);
             }
         }
         return sorted(all.toString());
+    }
+
+    private static String exceptions(Method method) {
+        StringBuilder all = new StringBuilder();
+        for (Class<?> type : method.getExceptionTypes()) {
+            boolean isIndex = type == IndexOutOfBoundsException.class;
+            boolean isArgument = type == IllegalArgumentException.class;
+            boolean isState = type == IllegalStateException.class;
+            all.append(all.length() == 0 ? "!" : "").append(isIndex ? "I" : isArgument ? "A" : isState ? "S" : type.getName());
+        }
+        return all.toString();
     }
 
     private static String constants(Class<?> face) throws IllegalAccessException {
@@ -56,6 +71,8 @@ public final class FaceTest {
         for (Field field : face.getDeclaredFields()) {
             if (!Modifier.isPrivate(field.getModifiers())) {
                 all.append(field.getName()).append('=').append(field.get(null)).append(' ');
+                Due.is(field + " is public, static and final", field.getModifiers(), Modifier.PUBLIC | Modifier.STATIC | Modifier.FINAL);
+                Due.same(field + ", its type,", field.getType().getName(), "int");
             }
         }
         return sorted(all.toString());
